@@ -19,7 +19,7 @@ public final class PageMaker {
     private static final int COST_OF_FULL_BADNESS = 100000;
 
     // A page begins behind the first box of the page before it, so there are never more pages than
-    // items, and each of them looks at each item at most once, and at one item that ends it.
+    // items, and none of them looks at an item twice.
     private static final int MOST_LOOKS = (MOST_ITEMS + 1) * (MOST_ITEMS + 1);
 
     private final ArrayList<Item> allItems = new ArrayList<>();
@@ -98,11 +98,11 @@ public final class PageMaker {
 
     public long stands(int page, int item) throws IndexOutOfBoundsException {
         EndedPage ended = endedPage(page);
-        if (!isItem(item) || !ended.holds(item) || !(allItems.get(item) instanceof Box box)) {
-            throw new IndexOutOfBoundsException("no box of this page");
+        if (isItem(item) && ended.holds(item) && allItems.get(item) instanceof Box box) {
+            Totals before = totalsOf(ended.frame, ended.first, item);
+            return before.length + before.depth + box.height + ended.shareOf(before);
         }
-        Totals before = totalsOf(ended.frame, ended.first, item);
-        return before.length + before.depth + box.height + ended.shareOf(before);
+        throw new IndexOutOfBoundsException("no box of this page");
     }
 
     public int where(int item) throws IndexOutOfBoundsException {

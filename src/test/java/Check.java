@@ -18,7 +18,10 @@ final class Check {
         }
     }
 
-    /** The very class is due, not one below it: the machine's own exceptions are below those of the document. */
+    /**
+     * The very class is due, not one below it, and thrown by the program: the machine's own exceptions
+     * are below those of the document, and the library throws some of the document's.
+     */
     void dueThrow(Class<?> want, PageMaker maker, String call, Runnable run) {
         String before = stateOf(maker);
         Class<?> got = null;
@@ -26,11 +29,19 @@ final class Check {
             run.run();
         } catch (RuntimeException e) {
             got = e.getClass();
+            if (!isThrownByTheProgram(e)) {
+                tell(call + " let the machine throw");
+            }
         }
         if (got != want) {
             tell(call + " threw " + got + ", due is " + want);
         }
         due(call + " that throws leaves", stateOf(maker), before);
+    }
+
+    private static boolean isThrownByTheProgram(RuntimeException e) {
+        StackTraceElement[] trace = e.getStackTrace();
+        return trace.length > 0 && trace[0].getClassName().equals("PageMaker");
     }
 
     void tell(String text) {

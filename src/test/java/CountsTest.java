@@ -5,7 +5,9 @@ public final class CountsTest {
     public static void main(String[] args) {
         countsEveryKindOfItem();
         countsPagesThatHaveEnded();
-        countsAllPagesThatOneCallEnds();
+        countsAllPagesThatOneCallEnds(5);
+        countsAllPagesThatOneCallEnds(160);
+        countsAllPagesThatOneCallEnds(666);
         check.end();
     }
 
@@ -39,24 +41,25 @@ public final class CountsTest {
     }
 
     /** The first break is the best each time, so that each page ends just behind its first box. */
-    private static void countsAllPagesThatOneCallEnds() {
+    private static void countsAllPagesThatOneCallEnds(int boxes) {
         PageMaker x = new PageMaker();
-        x.frame(100, 0, 0);
-        for (int i = 0; i < 5; i++) {
+        x.frame(20 * boxes, 0, 0);
+        for (int i = 0; i < boxes; i++) {
             x.box(0, 20, 0);
             x.glue(0, 1, 1, 0);
             x.penalty(-5000 + i);
         }
         check.due("pages before", x.pages(), 0);
-        x.box(0, 1000, 0);
+        x.box(0, 20 * boxes + 1, 0);
         check.due("pages with a box too great", x.pages(), 0);
-        check.due("pages that a penalty ends", x.penalty(0), 6);
-        check.due("pages", x.pages(), 6);
-        for (int page = 0; page < 5; page++) {
+        check.due("pages that a penalty ends", x.penalty(0), boxes + 1);
+        check.due("pages", x.pages(), boxes + 1);
+        for (int page = 0; page < boxes; page++) {
+            check.due("first box of page " + page, x.page(page, 0), 3 * page);
             check.due("break of page " + page, x.page(page, 1), 3 * page + 2);
-            check.due("what ended page " + page, x.page(page, 7), 16);
+            check.due("what ended page " + page, x.page(page, 7), 3 * boxes + 1);
         }
-        check.due("first box of the last page", x.page(5, 0), 15);
-        check.due("break of the last page", x.page(5, 1), 16);
+        check.due("first box of the last page", x.page(boxes, 0), 3 * boxes);
+        check.due("break of the last page", x.page(boxes, 1), 3 * boxes + 1);
     }
 }

@@ -35,7 +35,7 @@ public final class FrameTest {
         x.penalty(-10000);
         check.due("excess in the old frame", x.page(0, 3), 17);
         x.frame(7, 7, 7);
-        check.due("where a box of an ended page stands", x.stands(0, 2 - 1), 30);
+        check.due("where a box of an ended page stands", x.stands(0, 1), 30);
         x.box(0, 7, 7);
         check.due("length in the newest frame", x.open(1), 7);
     }

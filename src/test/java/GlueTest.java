@@ -43,6 +43,11 @@ public final class GlueTest {
         check.due("no break behind a box without glue", x.open(7), PageMaker.NONE);
         x.glue(0, 1, 0, 0);
         check.due("a break behind a box", x.open(7), 5);
+        PageMaker y = new PageMaker();
+        y.frame(10, 0, 0);
+        y.box(0, 10, 0);
+        y.glue(500, 0, 0, 0);
+        check.due("a break before the glue, that costs nothing", y.open(8), 0);
     }
 
     private static void endsAPage() {

@@ -7,6 +7,7 @@ public final class PageTest {
         tellsAllOfAPageThatShrinks();
         tellsAFullPage();
         tellsThePageWithAnAwfulBreakAlone();
+        tellsAPageByOneTooShortOrTooLong();
         takesTheGreatestOrderWithStretch();
         takesTheLastOfSeveralBestBreaks();
         ordersCostsNotBadness();
@@ -56,9 +57,10 @@ public final class PageTest {
         x.frame(100, 0, 0);
         x.box(0, 40, 0);
         x.glue(20, 7, 3, 7);
+        x.glue(0, 7, 0, 0);
         x.box(0, 40, 0);
         x.penalty(-10000);
-        duePage(x, 0, 0, 3, -10000, 0, 0, 0, 0, 3);
+        duePage(x, 0, 0, 4, -10000, 0, 0, 0, 0, 4);
     }
 
     private static void tellsThePageWithAnAwfulBreakAlone() {
@@ -70,6 +72,19 @@ public final class PageTest {
         x.box(0, 90, 0);
         x.glue(0, 0, 0, 1);
         duePage(x, 0, 0, 4, PageMaker.AWFUL, -30, 0, 29, PageMaker.AWFUL, 4);
+    }
+
+    private static void tellsAPageByOneTooShortOrTooLong() {
+        for (int excess = -1; excess <= 1; excess += 2) {
+            PageMaker x = new PageMaker();
+            x.frame(100, 0, 0);
+            x.box(0, 100 - excess, 0);
+            x.penalty(10000);
+            x.glue(0, 1, 2, 1);
+            x.penalty(-10000);
+            boolean stretches = excess > 0;
+            duePage(x, 0, 0, 3, -10000, excess, stretches ? 2 : 0, 1, stretches ? 0 : 100, 3);
+        }
     }
 
     private static void takesTheGreatestOrderWithStretch() {

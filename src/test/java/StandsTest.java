@@ -10,6 +10,7 @@ public final class StandsTest {
         stretchesTheGlueOfTheOrderAlone();
         shrinksTheGlue();
         roundsHalvesAwayFromZero();
+        roundsToTheNearest();
         shrinksByNoMoreThanTheShrink();
         sharesExactlyBeyondALong();
         refusesWhatIsNoBoxOfThePage();
@@ -91,6 +92,27 @@ public final class StandsTest {
         }
     }
 
+    private static void roundsToTheNearest() {
+        int[] want = {0, 0, 0, 1, 1, 1};
+        for (int part = 0; part <= 5; part++) {
+            PageMaker x = new PageMaker();
+            x.frame(1, 0, 0);
+            x.box(0, 0, 0);
+            x.glue(0, part, 0, 0);
+            x.box(0, 0, 0);
+            x.glue(0, 5 - part, 0, 0);
+            x.penalty(-10000);
+            check.due(part + " of 5 times 1", x.stands(0, 2), want[part]);
+        }
+        PageMaker y = new PageMaker();
+        y.frame(9, 0, 0);
+        y.box(0, 0, 0);
+        y.glue(0, 1, 0, 0);
+        y.box(0, 0, 0);
+        y.penalty(-10000);
+        check.due("1 of 1 times 9", y.stands(0, 2), 9);
+    }
+
     private static void shrinksByNoMoreThanTheShrink() {
         PageMaker x = new PageMaker();
         x.frame(0, 0, 0);
@@ -134,8 +156,8 @@ public final class StandsTest {
         check.due("total", x.page(0, 5), total.longValueExact());
         BigInteger part = BigInteger.ZERO;
         for (int i = 0; i < boxes; i++) {
-            BigInteger twice = part.multiply(excess).shiftLeft(1).add(total).divide(total.shiftLeft(1));
-            check.due("box " + i, x.stands(0, 2 * i), twice.longValueExact() - (long) SIZE * i);
+            BigInteger share = part.multiply(excess).shiftLeft(1).add(total).divide(total.shiftLeft(1));
+            check.due("box " + i, x.stands(0, 2 * i), share.longValueExact() - (long) SIZE * i);
             part = part.add(BigInteger.valueOf(SIZE - i));
         }
     }
