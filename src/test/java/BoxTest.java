@@ -1,59 +1,53 @@
-/** Promise 3. */
+/** Promise 3: box. What a box adds is in LengthTest, the 2000 items are in LimitTest. */
 public final class BoxTest {
-    private static final int SIZE = 1073741823;
+    private static final int SIZE = Check.SIZE;
     private static final Check check = new Check();
 
     public static void main(String[] args) {
-        addsHeightAndDepth();
-        putsTopGlueAboveTheFirstBoxAlone();
-        answersHowManyPagesHaveEnded();
+        comesIn();
+        answersHowManyPagesHaveEndedInAll();
+        refusesATagBelow0();
+        refusesAHeightThatIsNoSize();
+        refusesADepthThatIsNoSize();
         takesTheOutermostSizes();
-        refusesWhatIsNoBox();
-        refusesMoreThan2000Items();
+        asksNothingOfItsTag();
         check.end();
     }
 
-    private static void addsHeightAndDepth() {
+    /** "A box comes in" */
+    private static void comesIn() {
         PageMaker x = new PageMaker();
-        x.frame(1000, 0, 3);
-        x.box(0, 10, 3);
-        check.due("length", x.open(1), 10);
-        check.due("depth as great as may be", x.open(2), 3);
-        x.box(0, 10, 5);
-        check.due("length with the depth before and what is above the greatest depth", x.open(1), 25);
-        check.due("depth cut", x.open(2), 3);
-        x.box(0, -4, -6);
-        check.due("length with a negative height", x.open(1), 24);
-        check.due("negative depth", x.open(2), -6);
-        x.box(0, 0, 0);
-        check.due("length with the negative depth", x.open(1), 18);
+        x.frame(100, 0, 9);
+        x.kern(3);
+        x.box(7, 10, 2);
+        check.due("items", x.items(), 2);
+        check.dueOpen(x, 1, 10, 2, 0, 0, 0, 0, -1, PageMaker.AWFUL, 0);
     }
 
-    private static void putsTopGlueAboveTheFirstBoxAlone() {
+    /** "how many pages have ended in all" */
+    private static void answersHowManyPagesHaveEndedInAll() {
         PageMaker x = new PageMaker();
-        x.frame(1000, 30, 0);
-        x.box(0, 12, 0);
-        check.due("length below the top", x.open(1), 30);
-        x.box(0, 12, 0);
-        check.due("length with a second box", x.open(1), 42);
-        PageMaker y = new PageMaker();
-        y.frame(1000, 30, 0);
-        y.box(0, 31, 0);
-        check.due("length of a box above the top", y.open(1), 31);
-        PageMaker z = new PageMaker();
-        z.frame(1000, 30, 0);
-        z.box(0, -12, 0);
-        check.due("length of a negative box", z.open(1), 30);
-    }
-
-    private static void answersHowManyPagesHaveEnded() {
-        PageMaker x = new PageMaker();
-        check.due("box", x.box(1, 1, 1), 0);
+        check.due("box on the first page", x.box(1, 1, 1), 0);
+        check.due("another", x.box(1, 1, 1), 0);
         x.penalty(-10000);
         check.due("box on the second page", x.box(1, 1, 1), 1);
         x.penalty(-10000);
         check.due("box on the third page", x.box(1, 1, 1), 2);
-        check.due("items", x.items(), 5);
+        check.due("another", x.box(1, SIZE, 1), 2);
+    }
+
+    /** "when tag is negative" */
+    private static void refusesATagBelow0() {
+        check.dueRange("tag", 0, Integer.MAX_VALUE, (x, v) -> x.box(v, 5, 5));
+    }
+
+    /** "or one of the others is no size" */
+    private static void refusesAHeightThatIsNoSize() {
+        check.dueRange("height", -SIZE, SIZE, (x, v) -> x.box(0, v, 5));
+    }
+
+    private static void refusesADepthThatIsNoSize() {
+        check.dueRange("depth", -SIZE, SIZE, (x, v) -> x.box(0, 5, v));
     }
 
     private static void takesTheOutermostSizes() {
@@ -66,34 +60,19 @@ public final class BoxTest {
         check.due("the least depth", x.open(2), -SIZE);
         x.box(0, -SIZE, SIZE);
         check.due("length of three great boxes", x.open(1), 2147483646L);
+        check.due("items", x.items(), 3);
     }
 
-    private static void refusesWhatIsNoBox() {
-        PageMaker x = new PageMaker();
-        x.box(0, 1, 1);
-        int[][] wrong = {
-            {-1, 0, 0}, {Integer.MIN_VALUE, 0, 0},
-            {0, SIZE + 1, 0}, {0, -SIZE - 1, 0}, {0, Integer.MIN_VALUE, 0}, {0, Integer.MAX_VALUE, 0},
-            {0, 0, SIZE + 1}, {0, 0, -SIZE - 1}, {0, 0, Integer.MIN_VALUE}, {0, 0, Integer.MAX_VALUE}};
-        for (int[] w : wrong) {
-            check.dueThrow(Check.ARGUMENT, x, "box(" + w[0] + ", " + w[1] + ", " + w[2] + ")",
-                    () -> x.box(w[0], w[1], w[2]));
+    private static void asksNothingOfItsTag() {
+        int[] tags = {0, 1, Integer.MAX_VALUE};
+        for (int tag : tags) {
+            PageMaker x = new PageMaker();
+            x.box(tag, 5, 5);
+            x.box(tag, 5, 5);
+            PageMaker y = new PageMaker();
+            y.box(3, 5, 5);
+            y.box(4, 5, 5);
+            check.due("state with tags " + tag, Check.stateOf(x), Check.stateOf(y));
         }
-    }
-
-    private static void refusesMoreThan2000Items() {
-        PageMaker x = new PageMaker();
-        for (int i = 0; i < 2000; i++) {
-            check.due("box " + i, x.box(i, 1, 0), 0);
-        }
-        check.due("items", x.items(), 2000);
-        check.dueThrow(Check.UNSUPPORTED, x, "box 2000", () -> x.box(0, 0, 0));
-        check.dueThrow(Check.UNSUPPORTED, x, "glue 2000", () -> x.glue(0, 0, 0, 0));
-        check.dueThrow(Check.UNSUPPORTED, x, "kern 2000", () -> x.kern(0));
-        check.dueThrow(Check.UNSUPPORTED, x, "penalty 2000", () -> x.penalty(0));
-        check.dueThrow(Check.ARGUMENT, x, "wrong box 2000", () -> x.box(-1, 0, 0));
-        check.dueThrow(Check.ARGUMENT, x, "wrong glue 2000", () -> x.glue(0, 0, 4, 0));
-        check.dueThrow(Check.ARGUMENT, x, "wrong kern 2000", () -> x.kern(SIZE + 1));
-        check.dueThrow(Check.ARGUMENT, x, "wrong penalty 2000", () -> x.penalty(100001));
     }
 }

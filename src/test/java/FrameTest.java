@@ -1,18 +1,23 @@
-/** Promise 2. */
+/** Promise 2: frame. Which frame a page has when is in PageBeginTest. */
 public final class FrameTest {
-    private static final int SIZE = 1073741823;
+    private static final int SIZE = Check.SIZE;
     private static final Check check = new Check();
 
     public static void main(String[] args) {
         holdsForTheFirstBoxAfterIt();
         changesNoPageThatHasItsFirstBox();
-        holdsForAPageWhoseItemsAreThereAlready();
-        holdsForABoxThatComesAfterDroppedItems();
-        takesTheOutermostSizes();
-        refusesWhatIsNoFrame();
+        changesNoAnswerByItself();
+        refusesAHeightThatIsNoSizeOrBelow0();
+        refusesATopThatIsNoSize();
+        refusesAGreatestDepthThatIsNoSizeOrBelow0();
+        takesHeight0();
+        takesTop0AndBelow();
+        takesGreatestDepth0();
+        takesTheGreatestSizes();
         check.end();
     }
 
+    /** "for pages whose first box comes from now on" */
     private static void holdsForTheFirstBoxAfterIt() {
         PageMaker x = new PageMaker();
         x.frame(50, 20, 4);
@@ -22,6 +27,8 @@ public final class FrameTest {
         check.due("depth", x.open(2), 5);
         x.penalty(-10000);
         check.due("excess", x.page(0, 3), 26);
+        x.box(0, 10, 9);
+        check.due("length on the next page", x.open(1), 34);
     }
 
     private static void changesNoPageThatHasItsFirstBox() {
@@ -35,70 +42,77 @@ public final class FrameTest {
         x.penalty(-10000);
         check.due("excess in the old frame", x.page(0, 3), 17);
         x.frame(7, 7, 7);
+        check.due("excess of an ended page", x.page(0, 3), 17);
         check.due("where a box of an ended page stands", x.stands(0, 1), 30);
         x.box(0, 7, 7);
         check.due("length in the newest frame", x.open(1), 7);
     }
 
-    private static void holdsForAPageWhoseItemsAreThereAlready() {
-        PageMaker x = new PageMaker();
-        x.frame(50, 0, 0);
-        x.box(0, 50, 0);
-        x.penalty(0);
-        x.box(0, 20, 3);
-        x.frame(100, 40, 2);
-        check.due("a break past the height", x.penalty(5), 1);
-        check.due("the first page's excess", x.page(0, 3), 0);
-        check.due("the next page's first box", x.open(0), 2);
-        check.due("the next page's length", x.open(1), 41);
-        check.due("the next page's depth", x.open(2), 2);
-        x.frame(1, 1, 1);
-        x.penalty(-10000);
-        check.due("the next page's excess", x.page(1, 3), 59);
+    private static void changesNoAnswerByItself() {
+        PageMaker x = Check.withEndedPages();
+        String before = Check.stateOf(x);
+        x.frame(1, 2, 3);
+        check.due("the state after a frame", Check.stateOf(x), before);
     }
 
-    private static void holdsForABoxThatComesAfterDroppedItems() {
-        PageMaker x = new PageMaker();
-        x.frame(50, 0, 0);
-        x.box(0, 10, 0);
-        x.penalty(-10000);
-        x.frame(80, 15, 0);
-        x.kern(7);
-        x.glue(1, 1, 1, 1);
-        x.box(0, 10, 0);
-        check.due("length under the new top", x.open(1), 15);
-        x.penalty(-10000);
-        check.due("excess of the new height", x.page(1, 3), 65);
+    private static void refusesAHeightThatIsNoSizeOrBelow0() {
+        check.dueRange("height", 0, SIZE, (x, v) -> x.frame(v, 77, 7));
     }
 
-    private static void takesTheOutermostSizes() {
+    private static void refusesATopThatIsNoSize() {
+        check.dueRange("top", -SIZE, SIZE, (x, v) -> x.frame(777, v, 7));
+    }
+
+    private static void refusesAGreatestDepthThatIsNoSizeOrBelow0() {
+        check.dueRange("greatest depth", 0, SIZE, (x, v) -> x.frame(777, 77, v));
+    }
+
+    private static void takesHeight0() {
         PageMaker x = new PageMaker();
-        x.frame(0, -SIZE, 0);
+        x.frame(0, 0, 0);
+        x.box(0, 0, 0);
+        check.due("a break on a page of height 0", x.penalty(5), 0);
+        check.due("its cost", x.open(8), 5);
+        x.box(0, 1, 0);
+        check.due("a break past it", x.penalty(5), 2);
+        check.due("excess of the first page", x.page(0, 3), 0);
+        check.due("excess of the second page", x.page(1, 3), -1);
+    }
+
+    private static void takesTop0AndBelow() {
+        PageMaker x = new PageMaker();
+        x.frame(100, 0, 0);
+        x.box(0, -1, 0);
+        check.due("length below top 0", x.open(1), 0);
+        x.penalty(-10000);
+        x.frame(100, -5, 0);
+        x.box(0, 3, 0);
+        check.due("length of a box above a negative top", x.open(1), 3);
+        x.penalty(-10000);
+        x.box(0, -7, 0);
+        check.due("length of a box below a negative top", x.open(1), -5);
+        x.penalty(-10000);
+        x.frame(100, -SIZE, 0);
         x.box(0, -SIZE, 0);
-        check.due("no top glue", x.open(1), -SIZE);
-        x.penalty(-10000);
-        check.due("excess of height 0", x.page(0, 3), SIZE);
+        check.due("length of the least box at the least top", x.open(1), -SIZE);
+    }
+
+    private static void takesGreatestDepth0() {
+        PageMaker x = new PageMaker();
+        x.frame(100, 0, 0);
+        x.box(0, 10, 1);
+        check.due("depth", x.open(2), 0);
+        check.due("length", x.open(1), 11);
+    }
+
+    private static void takesTheGreatestSizes() {
+        PageMaker x = new PageMaker();
         x.frame(SIZE, SIZE, SIZE);
         x.box(0, -SIZE, SIZE);
         check.due("length under the greatest top", x.open(1), SIZE);
         check.due("the greatest depth", x.open(2), SIZE);
-    }
-
-    private static void refusesWhatIsNoFrame() {
-        PageMaker x = new PageMaker();
-        x.frame(50, 20, 4);
-        int[][] wrong = {
-            {-1, 0, 0}, {SIZE + 1, 0, 0}, {Integer.MIN_VALUE, 0, 0}, {Integer.MAX_VALUE, 0, 0},
-            {0, SIZE + 1, 0}, {0, -SIZE - 1, 0}, {0, Integer.MIN_VALUE, 0}, {0, Integer.MAX_VALUE, 0},
-            {0, 0, -1}, {0, 0, SIZE + 1}, {0, 0, Integer.MIN_VALUE}, {0, 0, Integer.MAX_VALUE}};
-        for (int[] w : wrong) {
-            check.dueThrow(Check.ARGUMENT, x, "frame(" + w[0] + ", " + w[1] + ", " + w[2] + ")",
-                    () -> x.frame(w[0], w[1], w[2]));
-        }
-        x.box(0, 10, 9);
-        check.due("length in the frame before the wrong ones", x.open(1), 25);
-        check.due("depth in the frame before the wrong ones", x.open(2), 4);
         x.penalty(-10000);
-        check.due("excess in the frame before the wrong ones", x.page(0, 3), 25);
+        check.due("excess of the greatest height", x.page(0, 3), 0);
+        check.due("where the box stands", x.stands(0, 0), SIZE);
     }
 }

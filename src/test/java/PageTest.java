@@ -1,24 +1,24 @@
-/** Promise 9. */
+/** Promise 9: page, and how a page is set. */
 public final class PageTest {
+    private static final int SIZE = Check.SIZE;
+    private static final int AWFUL = PageMaker.AWFUL;
     private static final Check check = new Check();
 
     public static void main(String[] args) {
         tellsAllOfAPageThatStretches();
         tellsAllOfAPageThatShrinks();
-        tellsAFullPage();
-        tellsThePageWithAnAwfulBreakAlone();
-        tellsAPageByOneTooShortOrTooLong();
-        takesTheGreatestOrderWithStretch();
-        takesTheLastOfSeveralBestBreaks();
-        ordersCostsNotBadness();
-        refusesOtherPagesAndWhats();
+        hasNoOrderAndNoTotalWithoutExcess();
+        turnsAtAnExcessOfOne();
+        hasOrder0AndTotal0WithoutStretch();
+        hasTheGreatestOrderWithStretch();
+        hasTheShrinkAsTotal();
+        hasLessShrinkThanIsMissing();
+        isSetUpToItsBestBreak();
+        goesBeyondAnInt();
+        tellsTheSameLater();
+        refusesOtherPages();
+        refusesOtherWhats();
         check.end();
-    }
-
-    private static void duePage(PageMaker x, int page, long... want) {
-        for (int what = 0; what < want.length; what++) {
-            check.due("page(" + page + ", " + what + ")", x.page(page, what), want[what]);
-        }
     }
 
     private static void tellsAllOfAPageThatStretches() {
@@ -35,7 +35,7 @@ public final class PageTest {
         x.glue(7, 1, 0, 0);
         check.due("pages", x.pages(), 1);
         // 297 * 10 / 20 is 148; its cube by 262144 is 12.
-        duePage(x, 0, 2, 5, 42, 10, 0, 20, 12, 8);
+        check.duePage(x, 0, 2, 5, 42, 10, 0, 20, 12, 8);
     }
 
     private static void tellsAllOfAPageThatShrinks() {
@@ -48,11 +48,12 @@ public final class PageTest {
         x.box(0, 40, 0);
         x.penalty(-10000);
         check.due("pages", x.pages(), 2);
-        duePage(x, 0, 0, 3, -18, -10, 0, 20, 12, 5);
-        duePage(x, 1, 4, 5, -10000, 60, 0, 0, 10000, 5);
+        check.duePage(x, 0, 0, 3, -18, -10, 0, 20, 12, 5);
+        check.duePage(x, 1, 4, 5, -10000, 60, 0, 0, 10000, 5);
     }
 
-    private static void tellsAFullPage() {
+    /** "if it is 0, both 0" */
+    private static void hasNoOrderAndNoTotalWithoutExcess() {
         PageMaker x = new PageMaker();
         x.frame(100, 0, 0);
         x.box(0, 40, 0);
@@ -60,34 +61,38 @@ public final class PageTest {
         x.glue(0, 7, 0, 0);
         x.box(0, 40, 0);
         x.penalty(-10000);
-        duePage(x, 0, 0, 4, -10000, 0, 0, 0, 0, 4);
+        check.duePage(x, 0, 0, 4, -10000, 0, 0, 0, 0, 4);
     }
 
-    private static void tellsThePageWithAnAwfulBreakAlone() {
-        PageMaker x = new PageMaker();
-        x.frame(100, 0, 0);
-        x.box(0, 40, 0);
-        x.penalty(10000);
-        x.glue(0, 0, 0, 29);
-        x.box(0, 90, 0);
-        x.glue(0, 0, 0, 1);
-        duePage(x, 0, 0, 4, PageMaker.AWFUL, -30, 0, 29, PageMaker.AWFUL, 4);
-    }
-
-    private static void tellsAPageByOneTooShortOrTooLong() {
-        for (int excess = -1; excess <= 1; excess += 2) {
+    /** "if it is above 0 .. if it is below 0 .." */
+    private static void turnsAtAnExcessOfOne() {
+        for (int excess = -1; excess <= 1; excess++) {
             PageMaker x = new PageMaker();
             x.frame(100, 0, 0);
             x.box(0, 100 - excess, 0);
             x.penalty(10000);
-            x.glue(0, 1, 2, 1);
+            x.glue(0, 3, 2, 1);
             x.penalty(-10000);
-            boolean stretches = excess > 0;
-            duePage(x, 0, 0, 3, -10000, excess, stretches ? 2 : 0, 1, stretches ? 0 : 100, 3);
+            int order = excess > 0 ? 2 : 0;
+            int total = excess > 0 ? 3 : -excess;
+            check.duePage(x, 0, 0, 3, -10000, excess, order, total, excess < 0 ? 100 : 0, 3);
         }
     }
 
-    private static void takesTheGreatestOrderWithStretch() {
+    /** "0 if there is none" */
+    private static void hasOrder0AndTotal0WithoutStretch() {
+        PageMaker x = new PageMaker();
+        x.frame(100, 0, 0);
+        x.box(0, 40, 0);
+        for (int order = 0; order < 4; order++) {
+            x.glue(0, 0, order, 9);
+        }
+        x.penalty(-10000);
+        check.duePage(x, 0, 0, 5, -10000, 60, 0, 0, 10000, 5);
+    }
+
+    /** "its ORDER is the greatest one with stretch .., THE TOTAL that" */
+    private static void hasTheGreatestOrderWithStretch() {
         for (int order = 0; order < 4; order++) {
             PageMaker x = new PageMaker();
             x.frame(100, 0, 0);
@@ -104,44 +109,103 @@ public final class PageTest {
         }
     }
 
-    private static void takesTheLastOfSeveralBestBreaks() {
+    /** "if it is below 0, the order 0, the total the shrink" */
+    private static void hasTheShrinkAsTotal() {
         PageMaker x = new PageMaker();
         x.frame(100, 0, 0);
         x.box(0, 40, 0);
-        x.glue(0, 1, 1, 0);
-        x.penalty(5);
-        x.penalty(6);
-        x.penalty(5);
-        x.penalty(6);
-        x.box(0, 100, 0);
-        x.penalty(0);
-        duePage(x, 0, 0, 4, 5, 60, 1, 1, 0, 7);
+        x.glue(30, 1, 1, 20);
+        x.glue(30, 1, 3, 5);
+        x.penalty(-10000);
+        check.duePage(x, 0, 0, 3, -10000, 0, 0, 0, 0, 3);
+        x.box(0, 41, 0);
+        x.glue(30, 1, 1, 20);
+        x.glue(30, 1, 3, 5);
+        x.penalty(-10000);
+        check.duePage(x, 1, 4, 7, -10000, -1, 0, 25, 0, 7);
     }
 
-    private static void ordersCostsNotBadness() {
+    private static void hasLessShrinkThanIsMissing() {
         PageMaker x = new PageMaker();
         x.frame(100, 0, 0);
-        x.box(0, 80, 0);
-        x.glue(0, 20, 0, 0);
-        x.penalty(-1);
-        x.box(0, 20, 0);
-        x.penalty(100);
-        x.box(0, 1, 0);
-        x.penalty(0);
-        duePage(x, 0, 0, 2, 99, 20, 0, 20, 100, 6);
+        x.box(0, 40, 0);
+        x.penalty(10000);
+        x.glue(0, 0, 0, 29);
+        x.box(0, 90, 0);
+        x.glue(0, 0, 0, 1);
+        check.duePage(x, 0, 0, 4, AWFUL, -30, 0, 29, AWFUL, 4);
     }
 
-    private static void refusesOtherPagesAndWhats() {
+    /** "of its list up to the best break" */
+    private static void isSetUpToItsBestBreak() {
         PageMaker x = new PageMaker();
-        x.box(0, 1, 1);
-        check.dueThrow(Check.INDEX, x, "page(0, 0) of the open page", () -> x.page(0, 0));
-        x.penalty(-10000);
-        x.box(0, 1, 1);
-        int[][] wrong = {
-            {-1, 0}, {1, 0}, {2, 0}, {Integer.MIN_VALUE, 0}, {Integer.MAX_VALUE, 0},
-            {0, -1}, {0, 8}, {0, Integer.MIN_VALUE}, {0, Integer.MAX_VALUE}, {1, 8}};
-        for (int[] w : wrong) {
-            check.dueThrow(Check.INDEX, x, "page(" + w[0] + ", " + w[1] + ")", () -> x.page(w[0], w[1]));
+        x.frame(100, 0, 0);
+        x.box(0, 40, 0);
+        x.penalty(10000);
+        x.glue(10, 6, 1, 3);
+        x.penalty(-40);
+        x.glue(10, 7, 2, 4);
+        x.penalty(-39);
+        x.box(0, 50, 0);
+        x.penalty(0);
+        check.duePage(x, 0, 0, 3, -40, 50, 1, 6, 0, 7);
+    }
+
+    private static void goesBeyondAnInt() {
+        PageMaker x = new PageMaker();
+        x.frame(SIZE, -SIZE, 0);
+        x.box(0, -SIZE, 0);
+        for (int i = 0; i < 3; i++) {
+            x.glue(-SIZE, SIZE, 2, 0);
         }
+        x.penalty(-10000);
+        check.duePage(x, 0, 0, 4, -10000, 5L * SIZE, 2, 3L * SIZE, 0, 4);
+        x.frame(0, 0, 0);
+        x.box(0, SIZE, 0);
+        x.penalty(10000);
+        for (int i = 0; i < 3; i++) {
+            x.glue(SIZE, 0, 0, SIZE);
+        }
+        x.penalty(-10000);
+        check.duePage(x, 1, 5, 10, AWFUL, -4L * SIZE, 0, 3L * SIZE, AWFUL, 10);
+    }
+
+    private static void tellsTheSameLater() {
+        PageMaker x = Check.withEndedPages();
+        long[] before = new long[8];
+        for (int what = 0; what < 8; what++) {
+            before[what] = x.page(0, what);
+        }
+        x.frame(1, 1, 1);
+        Check.goOn(x);
+        check.duePage(x, 0, before);
+    }
+
+    /** "when there is no such page" */
+    private static void refusesOtherPages() {
+        check.dueThrow(Check.INDEX, Check::withOpenPage, "page(0, 0) of the open page", x -> x.page(0, 0));
+        int pages = Check.withEndedPages().pages();
+        check.due("pages", pages, 2);
+        check.due("the first page's first box", Check.withEndedPages().page(0, 0), 0);
+        check.due("the last page's first box", Check.withEndedPages().page(1, 0), 6);
+        int[] wrong = {-1, 2, 3, Integer.MIN_VALUE, Integer.MAX_VALUE};
+        for (int page : wrong) {
+            check.dueThrow(Check.INDEX, Check::withEndedPages, "page(" + page + ", 0)", x -> x.page(page, 0));
+            check.dueThrow(Check.INDEX, Check::withEndedPages, "page(" + page + ", 8)", x -> x.page(page, 8));
+        }
+    }
+
+    /** "or what" */
+    private static void refusesOtherWhats() {
+        int[] wrong = {-1, 8, 9, Integer.MIN_VALUE, Integer.MAX_VALUE};
+        for (int page = 0; page < 2; page++) {
+            int at = page;
+            for (int what : wrong) {
+                check.dueThrow(Check.INDEX, Check::withEndedPages, "page(" + page + ", " + what + ")",
+                        x -> x.page(at, what));
+            }
+        }
+        check.due("the first what", Check.withEndedPages().page(0, 0), 0);
+        check.due("the last what", Check.withEndedPages().page(0, 7), 5);
     }
 }

@@ -9,7 +9,7 @@ public final class RandomRunsTest {
 
     private final Random random;
     private final int manner;
-    private final PageMaker maker = new PageMaker();
+    private final LongRun run = new LongRun();
     private final PlainModel model = new PlainModel();
     private String name;
 
@@ -21,10 +21,10 @@ public final class RandomRunsTest {
     public static void main(String[] args) {
         int pages = 0;
         for (int manner = 0; manner < MANNERS; manner++) {
-            for (int run = 0; run < RUNS; run++) {
-                RandomRunsTest test = new RandomRunsTest(manner, 1000L * manner + run);
-                test.go(20 + run % 100);
-                pages += test.maker.pages();
+            for (int i = 0; i < RUNS; i++) {
+                RandomRunsTest test = new RandomRunsTest(manner, 1000L * manner + i);
+                test.go(20 + i % 100);
+                pages += test.run.ask().pages();
             }
         }
         if (pages < MANNERS * RUNS) {
@@ -56,7 +56,7 @@ public final class RandomRunsTest {
         int height = manner == 1 ? from0(SIZE) : 20 + random.nextInt(200);
         int top = manner == 1 ? size() : random.nextInt(30) - 5;
         int greatest = manner == 1 ? from0(SIZE) : random.nextInt(5);
-        maker.frame(height, top, greatest);
+        run.frame(height, top, greatest);
         model.frame(height, top, greatest);
     }
 
@@ -97,7 +97,7 @@ public final class RandomRunsTest {
             int height = size();
             int depth = manner == 1 ? size() : size() / 3;
             model.comeIn(new PlainModel.Item(PlainModel.Kind.BOX, height, depth, 0, 0, 0));
-            return maker.box(random.nextInt(Integer.MAX_VALUE), height, depth);
+            return run.box(random.nextInt(Integer.MAX_VALUE), height, depth);
         }
         if (kind < 15) {
             int width = manner == 0 ? random.nextInt(4) : size();
@@ -105,32 +105,32 @@ public final class RandomRunsTest {
             int order = random.nextInt(3) == 0 ? random.nextInt(4) : 0;
             int shrink = give();
             model.comeIn(new PlainModel.Item(PlainModel.Kind.GLUE, width, 0, stretch, order, shrink));
-            return maker.glue(width, stretch, order, shrink);
+            return run.glue(width, stretch, order, shrink);
         }
         if (kind < 17) {
             int width = size();
             model.comeIn(new PlainModel.Item(PlainModel.Kind.KERN, width, 0, 0, 0, 0));
-            return maker.kern(width);
+            return run.kern(width);
         }
         int p = somePenalty();
         model.comeIn(new PlainModel.Item(PlainModel.Kind.PENALTY, p, 0, 0, 0, 0));
-        return maker.penalty(p);
+        return run.penalty(p);
     }
 
     private void compareOpen() {
-        check.due(name + ": items", maker.items(), model.items.size());
-        check.due(name + ": pages", maker.pages(), model.pages.size());
+        check.due(name + ": items", run.ask().items(), model.items.size());
+        check.due(name + ": pages", run.ask().pages(), model.pages.size());
         PlainModel.Sums sums = model.openSums();
         boolean none = model.openFirst() < 0;
-        check.due(name + ": open(0)", maker.open(0), model.openFirst());
-        check.due(name + ": open(1)", maker.open(1), none ? 0 : sums.length().longValueExact());
-        check.due(name + ": open(2)", maker.open(2), none ? 0 : sums.depth().longValueExact());
+        check.due(name + ": open(0)", run.ask().open(0), model.openFirst());
+        check.due(name + ": open(1)", run.ask().open(1), none ? 0 : sums.length().longValueExact());
+        check.due(name + ": open(2)", run.ask().open(2), none ? 0 : sums.depth().longValueExact());
         for (int order = 0; order < 4; order++) {
-            check.due(name + ": open(" + (3 + order) + ")", maker.open(3 + order), sums.stretch()[order].longValueExact());
+            check.due(name + ": open(" + (3 + order) + ")", run.ask().open(3 + order), sums.stretch()[order].longValueExact());
         }
-        check.due(name + ": open(7)", maker.open(7), model.openBest);
-        check.due(name + ": open(8)", maker.open(8), model.openCost);
-        check.due(name + ": open(9)", maker.open(9), sums.shrink().longValueExact());
+        check.due(name + ": open(7)", run.ask().open(7), model.openBest);
+        check.due(name + ": open(8)", run.ask().open(8), model.openCost);
+        check.due(name + ": open(9)", run.ask().open(9), sums.shrink().longValueExact());
     }
 
     private void comparePages() {
@@ -139,14 +139,14 @@ public final class RandomRunsTest {
             long[] want = {page.first(), page.best(), page.cost(), model.excess(page).longValueExact(),
                 model.order(page), model.total(page).longValueExact(), page.badness(), page.ending()};
             for (int what = 0; what < want.length; what++) {
-                check.due(name + ": page(" + i + ", " + what + ")", maker.page(i, what), want[what]);
+                check.due(name + ": page(" + i + ", " + what + ")", run.ask().page(i, what), want[what]);
             }
             for (int item = -1; item <= model.items.size(); item++) {
-                check.due(name + ": stands(" + i + ", " + item + ")", Check.standsOrNone(maker, i, item), wantStands(i, item));
+                check.due(name + ": stands(" + i + ", " + item + ")", Check.standsOrNone(run.ask(), i, item), wantStands(i, item));
             }
         }
         for (int item = 0; item < model.items.size(); item++) {
-            check.due(name + ": where(" + item + ")", maker.where(item), model.where(item));
+            check.due(name + ": where(" + item + ")", run.ask().where(item), model.where(item));
         }
     }
 

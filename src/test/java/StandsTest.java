@@ -1,25 +1,41 @@
 import java.math.BigInteger;
 
-/** Promise 10. */
+/** Promise 10: stands, and where a box stands. */
 public final class StandsTest {
-    private static final int SIZE = 1073741823;
+    private static final int SIZE = Check.SIZE;
     private static final Check check = new Check();
 
     public static void main(String[] args) {
         addsLengthDepthAndHeight();
+        standsInTheFrameOfThePage();
         stretchesTheGlueOfTheOrderAlone();
+        stretchesTheGlueBeforeItAlone();
         shrinksTheGlue();
-        roundsHalvesAwayFromZero();
+        roundsHalvesAwayFrom0();
         roundsToTheNearest();
-        shrinksByNoMoreThanTheShrink();
+        hasNoShareWithoutExcess();
+        hasNoShareIfTheTotalIs0();
+        shrinksByNoMoreThanTheTotal();
+        shrinksByAllOfTheTotal();
+        sharesBeyondAnInt();
         sharesExactlyBeyondALong();
-        refusesWhatIsNoBoxOfThePage();
+        shrinksExactlyBeyondALong();
+        refusesOtherPages();
+        refusesWhatIsNoBox();
+        refusesBoxesOfOtherPages();
+        refusesWhatIsNoItem();
         check.end();
     }
 
-    private static void addsLengthDepthAndHeight() {
+    private static PageMaker inFrame(int height, int top, int greatest) {
         PageMaker x = new PageMaker();
-        x.frame(1000, 30, 5);
+        x.frame(height, top, greatest);
+        return x;
+    }
+
+    /** "the length of the list before it, and the depth there, and its height" */
+    private static void addsLengthDepthAndHeight() {
+        PageMaker x = inFrame(1000, 30, 5);
         x.box(0, 10, 8);
         x.box(0, 10, 2);
         x.kern(7);
@@ -35,9 +51,24 @@ public final class StandsTest {
         check.due("the first box above the top", x.stands(1, 6), 40);
     }
 
+    private static void standsInTheFrameOfThePage() {
+        PageMaker x = inFrame(100, 30, 5);
+        x.box(0, 10, 8);
+        x.frame(500, 60, 1);
+        x.box(0, 10, 8);
+        x.penalty(10000);
+        x.glue(0, 1, 1, 0);
+        x.box(0, 0, 0);
+        x.penalty(-10000);
+        x.frame(7, 7, 7);
+        check.due("the first box", x.stands(0, 0), 30);
+        check.due("the second box", x.stands(0, 1), 48);
+        check.due("the third box, at the end of the page", x.stands(0, 4), 100);
+    }
+
+    /** "of the glue of the list before it the stretch of the order .., times the excess, .. divided by the total" */
     private static void stretchesTheGlueOfTheOrderAlone() {
-        PageMaker x = new PageMaker();
-        x.frame(100, 0, 0);
+        PageMaker x = inFrame(100, 0, 0);
         x.box(0, 10, 0);
         x.glue(5, 90, 0, 0);
         x.box(0, 10, 0);
@@ -53,9 +84,26 @@ public final class StandsTest {
         check.due("below all glue", x.stands(0, 6), 100);
     }
 
+    private static void stretchesTheGlueBeforeItAlone() {
+        for (int order = 0; order < 4; order++) {
+            PageMaker x = inFrame(100, 0, 0);
+            x.glue(9, 9, order, 9);
+            x.box(0, 0, 0);
+            x.glue(0, 20, order, 0);
+            x.box(0, 0, 0);
+            x.glue(0, 30, order, 0);
+            x.box(0, 0, 0);
+            x.glue(0, 50, order, 0);
+            x.penalty(-10000);
+            check.due("before all glue of order " + order, x.stands(0, 1), 0);
+            check.due("behind 20 of 100", x.stands(0, 3), 20);
+            check.due("behind 50 of 100", x.stands(0, 5), 50);
+        }
+    }
+
+    /** "(or the shrink)" */
     private static void shrinksTheGlue() {
-        PageMaker x = new PageMaker();
-        x.frame(44, 0, 0);
+        PageMaker x = inFrame(44, 0, 0);
         x.box(0, 10, 0);
         x.glue(5, 90, 0, 2);
         x.box(0, 10, 0);
@@ -71,18 +119,17 @@ public final class StandsTest {
         check.due("below glue that does not", x.stands(0, 6), 44);
     }
 
-    private static void roundsHalvesAwayFromZero() {
+    /** "rounded to the nearest integer, halves away from 0" */
+    private static void roundsHalvesAwayFrom0() {
         for (int excess = 0; excess <= 20; excess++) {
-            PageMaker x = new PageMaker();
-            x.frame(excess, 0, 0);
+            PageMaker x = inFrame(excess, 0, 0);
             x.box(0, 0, 0);
             x.glue(0, 1, 1, 0);
             x.box(0, 0, 0);
             x.glue(0, 3, 1, 0);
             x.penalty(-10000);
             check.due("a quarter of " + excess, x.stands(0, 2), (excess + 2) / 4);
-            PageMaker y = new PageMaker();
-            y.frame(0, 0, 0);
+            PageMaker y = inFrame(0, 0, 0);
             y.box(0, 0, 0);
             y.glue(0, 0, 0, 10);
             y.box(0, 0, 0);
@@ -95,27 +142,61 @@ public final class StandsTest {
     private static void roundsToTheNearest() {
         int[] want = {0, 0, 0, 1, 1, 1};
         for (int part = 0; part <= 5; part++) {
-            PageMaker x = new PageMaker();
-            x.frame(1, 0, 0);
+            PageMaker x = inFrame(1, 0, 0);
             x.box(0, 0, 0);
             x.glue(0, part, 0, 0);
             x.box(0, 0, 0);
             x.glue(0, 5 - part, 0, 0);
             x.penalty(-10000);
             check.due(part + " of 5 times 1", x.stands(0, 2), want[part]);
+            PageMaker y = inFrame(0, 0, 0);
+            y.box(0, 0, 0);
+            y.glue(0, 0, 0, part);
+            y.box(0, 0, 0);
+            y.glue(1, 0, 0, 5 - part);
+            y.penalty(-10000);
+            check.due(part + " of 5 times less 1", y.stands(0, 2), -want[part]);
         }
-        PageMaker y = new PageMaker();
-        y.frame(9, 0, 0);
-        y.box(0, 0, 0);
-        y.glue(0, 1, 0, 0);
-        y.box(0, 0, 0);
-        y.penalty(-10000);
-        check.due("1 of 1 times 9", y.stands(0, 2), 9);
+        PageMaker z = inFrame(9, 0, 0);
+        z.box(0, 0, 0);
+        z.glue(0, 1, 0, 0);
+        z.box(0, 0, 0);
+        z.penalty(-10000);
+        check.due("1 of 1 times 9", z.stands(0, 2), 9);
     }
 
-    private static void shrinksByNoMoreThanTheShrink() {
-        PageMaker x = new PageMaker();
-        x.frame(0, 0, 0);
+    private static void hasNoShareWithoutExcess() {
+        PageMaker x = inFrame(30, 0, 0);
+        x.box(0, 10, 0);
+        x.glue(10, 5, 0, 5);
+        x.glue(0, 5, 3, 5);
+        x.box(0, 10, 0);
+        x.penalty(-10000);
+        check.due("below glue on a full page", x.stands(0, 3), 30);
+    }
+
+    /** "0 if the total is 0" */
+    private static void hasNoShareIfTheTotalIs0() {
+        PageMaker x = inFrame(100, 0, 0);
+        x.box(0, 10, 0);
+        x.glue(5, 0, 3, 9);
+        x.box(0, 10, 0);
+        x.penalty(-10000);
+        check.due("excess", x.page(0, 3), 75);
+        check.due("below glue without stretch", x.stands(0, 2), 25);
+        PageMaker y = inFrame(0, 0, 0);
+        y.box(0, 10, 0);
+        y.penalty(10000);
+        y.glue(5, 9, 3, 0);
+        y.box(0, 10, 0);
+        y.penalty(0);
+        check.due("excess", y.page(0, 3), -25);
+        check.due("below glue without shrink", y.stands(0, 3), 25);
+    }
+
+    /** "times less the total, if the page must shrink by more" */
+    private static void shrinksByNoMoreThanTheTotal() {
+        PageMaker x = inFrame(0, 0, 0);
         x.box(0, 10, 0);
         x.penalty(10000);
         x.glue(0, 0, 0, 3);
@@ -126,64 +207,150 @@ public final class StandsTest {
         check.due("pages", x.penalty(0), 1);
         check.due("excess", x.page(0, 3), -30);
         check.due("total", x.page(0, 5), 7);
+        check.due("above all glue", x.stands(0, 0), 10);
         check.due("below the first glue", x.stands(0, 3), 20 - 3);
         check.due("below the second glue", x.stands(0, 6), 30 - 7);
-        PageMaker y = new PageMaker();
-        y.frame(0, 0, 0);
-        y.box(0, 10, 0);
-        y.penalty(10000);
-        y.glue(5, 9, 3, 0);
-        y.box(0, 10, 0);
-        y.penalty(0);
-        check.due("without shrink", y.stands(0, 3), 25);
+    }
+
+    private static void shrinksByAllOfTheTotal() {
+        for (int missing = 9; missing <= 11; missing++) {
+            PageMaker x = inFrame(0, 0, 0);
+            x.box(0, 0, 0);
+            x.penalty(10000);
+            x.glue(0, 0, 0, 10);
+            x.box(0, missing, 0);
+            x.penalty(-10000);
+            check.due(missing + " missing by shrink 10", x.stands(0, 3), missing - Math.min(missing, 10));
+        }
+    }
+
+    private static void sharesBeyondAnInt() {
+        PageMaker x = inFrame(SIZE, -SIZE, 0);
+        x.box(0, -SIZE, 0);
+        x.glue(-SIZE, SIZE, 1, 0);
+        x.glue(-SIZE, SIZE, 1, 0);
+        x.box(0, SIZE, 0);
+        x.glue(-SIZE, SIZE, 1, 0);
+        x.penalty(-10000);
+        check.due("excess", x.page(0, 3), 4L * SIZE);
+        check.due("total", x.page(0, 5), 3L * SIZE);
+        // Two thirds of 4 sizes, and 2 sizes less.
+        check.due("behind two of three", x.stands(0, 3), 8L * SIZE / 3 - 2L * SIZE);
+    }
+
+    private static BigInteger big(long value) {
+        return BigInteger.valueOf(value);
+    }
+
+    private static BigInteger roundedShare(BigInteger part, BigInteger amount, BigInteger total) {
+        return part.multiply(amount).shiftLeft(1).add(total).divide(total.shiftLeft(1));
     }
 
     private static void sharesExactlyBeyondALong() {
-        PageMaker x = new PageMaker();
-        x.frame(SIZE, 0, 0);
+        PageMaker x = inFrame(SIZE, 0, 0);
         int boxes = 100;
+        BigInteger total = BigInteger.ZERO;
         for (int i = 0; i < boxes; i++) {
             x.box(0, -SIZE, 0);
             x.glue(0, SIZE - i, 3, 0);
+            total = total.add(big(SIZE - i));
         }
         x.penalty(-10000);
-        BigInteger total = BigInteger.ZERO;
-        for (int i = 0; i < boxes; i++) {
-            total = total.add(BigInteger.valueOf(SIZE - i));
-        }
-        BigInteger excess = BigInteger.valueOf(SIZE).multiply(BigInteger.valueOf(boxes));
+        // The top glue makes up for the first box's height.
+        BigInteger excess = big(SIZE).multiply(big(boxes));
         check.due("excess", x.page(0, 3), excess.longValueExact());
         check.due("total", x.page(0, 5), total.longValueExact());
         BigInteger part = BigInteger.ZERO;
         for (int i = 0; i < boxes; i++) {
-            BigInteger share = part.multiply(excess).shiftLeft(1).add(total).divide(total.shiftLeft(1));
-            check.due("box " + i, x.stands(0, 2 * i), share.longValueExact() - (long) SIZE * i);
-            part = part.add(BigInteger.valueOf(SIZE - i));
+            long share = roundedShare(part, excess, total).longValueExact();
+            check.due("box " + i, x.stands(0, 2 * i), share - (long) SIZE * i);
+            part = part.add(big(SIZE - i));
         }
     }
 
-    private static void refusesWhatIsNoBoxOfThePage() {
-        PageMaker x = new PageMaker();
-        x.frame(100, 0, 0);
+    private static void shrinksExactlyBeyondALong() {
+        PageMaker x = inFrame(0, 0, 0);
+        int boxes = 80;
+        BigInteger total = BigInteger.ZERO;
+        for (int i = 0; i < boxes; i++) {
+            x.box(0, SIZE - 7 * i - 5, 0);
+            x.penalty(10000);
+            x.glue(0, 0, 0, SIZE - i);
+            total = total.add(big(SIZE - i));
+        }
+        x.penalty(-10000);
+        long missing = -x.page(0, 3);
+        check.due("cost", x.page(0, 2), -10000);
+        check.due("total", x.page(0, 5), total.longValueExact());
+        BigInteger part = BigInteger.ZERO;
+        long length = 0;
+        for (int i = 0; i < boxes; i++) {
+            length += SIZE - 7 * i - 5;
+            long share = roundedShare(part, big(missing), total).longValueExact();
+            check.due("box " + i, x.stands(0, 3 * i), length - share);
+            part = part.add(big(SIZE - i));
+        }
+        check.due("what is missing", missing, length);
+    }
+
+    /** Item 1 is the box of page 0, with glue, a kern and a penalty; item 5 its last; 7 is that of page 1; 9 is open. */
+    private static PageMaker withTwoPages() {
+        PageMaker x = inFrame(100, 0, 0);
         x.penalty(0);
         x.box(0, 1, 0);
         x.glue(0, 0, 0, 0);
         x.kern(0);
         x.penalty(1);
-        check.dueThrow(Check.INDEX, x, "stands on the open page", () -> x.stands(0, 1));
         x.box(0, 1, 0);
         x.penalty(-10000);
         x.box(0, 1, 0);
         x.penalty(-10000);
         x.box(0, 1, 0);
-        check.due("the last box of the page", x.stands(0, 5), 2);
-        check.due("the next page's box", x.stands(1, 7), 1);
-        int[][] wrong = {
-            {0, 0}, {0, 2}, {0, 3}, {0, 4}, {0, 6}, {0, 7}, {0, 9}, {0, 10}, {0, -1},
-            {0, Integer.MIN_VALUE}, {0, Integer.MAX_VALUE}, {1, 1}, {1, 5}, {1, 6}, {1, 8}, {1, 9},
-            {2, 9}, {3, 9}, {-1, 1}, {Integer.MIN_VALUE, 1}, {Integer.MAX_VALUE, 1}};
-        for (int[] w : wrong) {
-            check.dueThrow(Check.INDEX, x, "stands(" + w[0] + ", " + w[1] + ")", () -> x.stands(w[0], w[1]));
+        return x;
+    }
+
+    private static void dueRefused(int page, int... items) {
+        for (int item : items) {
+            check.dueThrow(Check.INDEX, StandsTest::withTwoPages, "stands(" + page + ", " + item + ")",
+                    x -> x.stands(page, item));
         }
+    }
+
+    /** "when there is no such page" */
+    private static void refusesOtherPages() {
+        check.due("the last page's box", withTwoPages().stands(1, 7), 1);
+        dueRefused(2, 1, 5, 7, 9);
+        dueRefused(3, 9);
+        dueRefused(-1, 1, 5, 7, 9);
+        dueRefused(Integer.MIN_VALUE, 1);
+        dueRefused(Integer.MAX_VALUE, 1);
+        check.dueThrow(Check.INDEX, Check::withOpenPage, "stands(0, 0) on the open page", x -> x.stands(0, 0));
+    }
+
+    /** "or it is no box of it": what was dropped, glue, a kern, a penalty, the item of the break. */
+    private static void refusesWhatIsNoBox() {
+        check.due("the page's first box", withTwoPages().stands(0, 1), 1);
+        check.due("the page's last box", withTwoPages().stands(0, 5), 2);
+        dueRefused(0, 0, 2, 3, 4, 6);
+        dueRefused(1, 6, 8);
+    }
+
+    private static void refusesBoxesOfOtherPages() {
+        dueRefused(0, 7, 9);
+        dueRefused(1, 1, 5, 9);
+        // The box that made the page end, behind its best break.
+        check.dueThrow(Check.INDEX, () -> {
+            PageMaker x = inFrame(10, 0, 0);
+            x.box(0, 10, 0);
+            x.glue(0, 0, 0, 0);
+            x.box(0, 10, 0);
+            x.glue(0, 0, 0, 0);
+            return x;
+        }, "stands(0, 2) behind the best break", x -> x.stands(0, 2));
+    }
+
+    private static void refusesWhatIsNoItem() {
+        dueRefused(0, -1, 10, 11, 1999, 2000, Integer.MIN_VALUE, Integer.MAX_VALUE);
+        dueRefused(1, -1, 10, 11, 1999, 2000, Integer.MIN_VALUE, Integer.MAX_VALUE);
     }
 }
