@@ -13,6 +13,7 @@ public final class BadnessTest {
         isByTheFrameOfThePage();
         followsTheFormulaForStretch();
         followsTheFormulaForShrink();
+        followsTheFormulaForEveryR();
         followsTheFormulaBeyondAnInt();
         check.end();
     }
@@ -150,6 +151,14 @@ public final class BadnessTest {
         for (int[] b : BADNESSES) {
             long want = b[0] > b[1] ? PageMaker.AWFUL : b[2];
             check.due("badness of " + b[0] + " by the shrink " + b[1], badnessWithShrink(b[0], b[1]), want);
+        }
+    }
+
+    /** By a stretch of 297 r is t. */
+    private static void followsTheFormulaForEveryR() {
+        for (int r = 1; r <= 1300; r++) {
+            long want = r > 1290 ? 10000 : ((long) r * r * r + 131072) / 262144;
+            check.due("badness of " + r + " by 297", badnessWithStretch(r, 0, 297), want);
         }
     }
 

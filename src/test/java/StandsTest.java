@@ -20,6 +20,7 @@ public final class StandsTest {
         sharesBeyondAnInt();
         sharesExactlyBeyondALong();
         shrinksExactlyBeyondALong();
+        roundsExactlyCloseToAHalf();
         refusesOtherPages();
         refusesWhatIsNoBox();
         refusesBoxesOfOtherPages();
@@ -291,6 +292,58 @@ public final class StandsTest {
             part = part.add(big(SIZE - i));
         }
         check.due("what is missing", missing, length);
+    }
+
+    /** Glue in pieces that are sizes. */
+    private static void giveGlue(PageMaker x, long sum, boolean stretches) {
+        for (long left = sum; left > 0; left -= SIZE) {
+            int piece = (int) Math.min(left, SIZE);
+            x.glue(0, stretches ? piece : 0, 1, stretches ? 0 : piece);
+        }
+    }
+
+    private static void giveKern(PageMaker x, long sum, int sign) {
+        for (long left = sum; left > 0; left -= SIZE) {
+            x.kern(sign * (int) Math.min(left, SIZE));
+        }
+    }
+
+    /** The share alone, of a box behind a part of the glue of a page that has to give an amount. */
+    private static long shareOf(long part, long amount, long total, boolean stretches) {
+        PageMaker x = inFrame(0, 0, 0);
+        x.box(0, 0, 0);
+        x.penalty(10000);
+        giveGlue(x, part, stretches);
+        x.box(0, 0, 0);
+        x.penalty(10000);
+        giveGlue(x, total - part, stretches);
+        giveKern(x, amount, stretches ? -1 : 1);
+        x.penalty(-10000);
+        check.due("excess", x.page(0, 3), stretches ? amount : -amount);
+        check.due("total", x.page(0, 5), total);
+        int box = 2;
+        while (Check.standsOrNone(x, 0, box).equals("-")) {
+            box++;
+        }
+        return x.stands(0, box);
+    }
+
+    /** Parts for which part * amount / total is an integer and a half, or beside that by 1 / total at most. */
+    private static void roundsExactlyCloseToAHalf() {
+        long amount = 60L * SIZE + 1234567;
+        for (long total = 70L * SIZE - 8; total <= 70L * SIZE; total++) {
+            if (!big(amount).gcd(big(total)).equals(BigInteger.ONE)) {
+                continue;
+            }
+            for (long beside = -1; beside <= 1; beside++) {
+                BigInteger rest = big(total / 2 + beside);
+                BigInteger part = rest.multiply(big(amount).modInverse(big(total))).mod(big(total));
+                long want = roundedShare(part, big(amount), big(total)).longValueExact();
+                String call = "share " + part + " of " + total + " times " + amount;
+                check.due(call, shareOf(part.longValueExact(), amount, total, true), want);
+                check.due("less " + call, shareOf(part.longValueExact(), amount, total, false), -want);
+            }
+        }
     }
 
     /** Item 1 is the box of page 0, with glue, a kern and a penalty; item 5 its last; 7 is that of page 1; 9 is open. */
