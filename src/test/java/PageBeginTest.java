@@ -11,6 +11,7 @@ public final class PageBeginTest {
         dropsOnEveryPage();
         hasTheFrameOfWhenItsFirstBoxComes();
         hasTheFrameOfWhenThePageBeforeEnds();
+        hasTheFrameOfWhenThePageBeforeEndsBehindDroppedItems();
         hasOneFrameForAllPagesOfOneCall();
         hasTheFrameOfItsFirstBoxBehindItemsThereAlready();
         hasTopGlueNotBelow0();
@@ -88,7 +89,11 @@ public final class PageBeginTest {
         check.dueWhere(x, 0, -1, -1, -1, 1, 1, -1);
     }
 
-    /** "it has the frame that there is when its first box comes to it" */
+    /**
+     * "it has the frame that there is when its first box comes to it (for a page that begins with items
+     * that are there already: when the page before it ends)", and promise 2, "for pages whose first box
+     * comes from now on": for the first page its first box comes when it comes in.
+     */
     private static void hasTheFrameOfWhenItsFirstBoxComes() {
         PageMaker x = new PageMaker();
         x.frame(50, 10, 4);
@@ -104,7 +109,7 @@ public final class PageBeginTest {
         check.due("excess of the height then", x.page(0, 3), 80 - 28);
     }
 
-    /** "for a page that begins with items that are there already: when the page before it ends" */
+    /** A box that is there already comes to its page when the page before it ends, not when it came in. */
     private static void hasTheFrameOfWhenThePageBeforeEnds() {
         PageMaker x = new PageMaker();
         x.frame(50, 0, 0);
@@ -119,9 +124,30 @@ public final class PageBeginTest {
         check.due("the next page's length", x.open(1), 41);
         check.due("the next page's depth", x.open(2), 2);
         x.frame(1, 1, 1);
+        x.box(0, 10, 9);
+        check.due("the next page's length in a later frame", x.open(1), 60);
+        check.due("the next page's depth in a later frame", x.open(2), 2);
         x.penalty(-10000);
-        check.due("the next page's excess", x.page(1, 3), 59);
+        check.due("the next page's excess", x.page(1, 3), 40);
         check.due("where the next page's box stands", x.stands(1, 2), 40);
+        check.due("where its second box stands", x.stands(1, 4), 53);
+    }
+
+    /** So too behind items that are dropped, and for a box that came in before the page's own frame. */
+    private static void hasTheFrameOfWhenThePageBeforeEndsBehindDroppedItems() {
+        PageMaker x = new PageMaker();
+        x.frame(50, 0, 0);
+        x.box(0, 50, 0);
+        x.glue(3, 0, 0, 0);
+        x.kern(3);
+        x.penalty(10000);
+        x.box(0, 20, 3);
+        x.frame(100, 40, 2);
+        check.due("a break past the height", x.glue(0, 0, 0, 0), 1);
+        check.dueOpen(x, 4, 43, 0, 0, 0, 0, 0, 5, 100000, 0);
+        x.frame(1, 1, 1);
+        x.penalty(-10000);
+        check.duePage(x, 1, 4, 6, -10000, 57, 0, 0, 10000, 6);
     }
 
     private static void hasOneFrameForAllPagesOfOneCall() {
@@ -141,20 +167,29 @@ public final class PageBeginTest {
         check.duePage(x, 2, 6, 7, PageMaker.AWFUL, -1, 0, 0, PageMaker.AWFUL, 7);
     }
 
-    /** Promise 2 decides: the first box is not there yet when the page before it ends. */
+    /**
+     * Items are there already (that of the break always is), but no box: the first box comes to the page
+     * only later, and promise 2 lets every frame until then hold for it. So both sentences are kept.
+     */
     private static void hasTheFrameOfItsFirstBoxBehindItemsThereAlready() {
         PageMaker x = new PageMaker();
         x.frame(50, 0, 0);
         x.box(0, 10, 0);
         x.penalty(-10000);
-        x.frame(80, 15, 3);
+        x.frame(70, 0, 0);
         x.kern(7);
+        x.frame(80, 15, 3);
         x.glue(1, 1, 1, 1);
+        check.dueOpen(x, -1, 0, 0, 0, 0, 0, 0, -1, PageMaker.AWFUL, 0);
         x.box(0, 10, 9);
         check.due("length under the new top", x.open(1), 21);
         check.due("depth under the new greatest depth", x.open(2), 3);
+        x.frame(1, 1, 1);
         x.penalty(-10000);
         check.due("excess of the new height", x.page(1, 3), 59);
+        x.box(0, 2, 2);
+        check.due("length on the page behind it", x.open(1), 3);
+        check.due("depth on the page behind it", x.open(2), 1);
     }
 
     /** "a kern that is as wide as the top less the first box's height, but not below 0" */
